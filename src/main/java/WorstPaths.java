@@ -460,13 +460,11 @@ public final class WorstPaths {
     }
 
     /**
-     * The best of all ways. A state is a block and a code of how often each bounded edge and
-     * whether each edge of a pair was taken. Every edge leads to a higher code, or in the same
-     * code to a block that is later in the order: so states have an order, too.
+     * The most and the fewest cycles of all ways. A state is a block and a code of how often each
+     * bounded edge and whether each edge of a pair was taken. Every edge leads to a higher code, or
+     * in the same code to a block that is later in the order: so states have an order, too.
      */
     private static final class Search {
-        private static final long UNSEEN = -2;
-
         boolean answered;
         private int codes;
         // Blocks that are come to, each before those to which an edge without a bound leads.
@@ -497,7 +495,6 @@ public final class WorstPaths {
             }
             layOutCode(p);
             makeRoom(codes * p.blocks);
-            markStates(p);
             valueStates(p, ages);
             answered = most[0] != NONE;
         }
@@ -533,7 +530,7 @@ public final class WorstPaths {
                     putInOrder(b);
                 }
             }
-            for (int done = 0; done < ordered; done++) {
+            for (int done = 0; done < ordered && done < MOST_BLOCKS; done++) {
                 int b = order[done];
                 for (int i = p.firstLeaving[b]; i < p.firstLeaving[b + 1]; i++) {
                     int e = p.leaving[i];
@@ -608,38 +605,16 @@ public final class WorstPaths {
             return (code | flag[e]) + unit[e];
         }
 
-        // Most codes can not be had in most blocks: only states that are marked get values.
-        private void markStates(Program p) {
-            int states = codes * p.blocks;
-            for (int state = 0; state < states; state++) {
-                most[state] = UNSEEN;
-            }
-            most[0] = NONE;
-            for (int code = 0; code < codes; code++) {
-                for (int i = 0; i < ordered; i++) {
-                    if (most[code * p.blocks + order[i]] != UNSEEN) {
-                        markBehind(p, code, order[i]);
-                    }
-                }
-            }
+        private int stateBehind(Program p, int e, int code) {
+            int next = codeBehind(p, e, code);
+            return next == NONE ? NONE : next * p.blocks + p.to[e];
         }
 
-        private void markBehind(Program p, int code, int b) {
-            for (int i = p.firstLeaving[b]; i < p.firstLeaving[b + 1]; i++) {
-                int e = p.leaving[i];
-                int next = codeBehind(p, e, code);
-                if (next != NONE) {
-                    most[next * p.blocks + p.to[e]] = NONE;
-                }
-            }
-        }
-
+        // States that no way comes to get values, too: finding them out would take as long.
         private void valueStates(Program p, Ages ages) {
             for (int code = codes - 1; code >= 0; code--) {
                 for (int i = ordered - 1; i >= 0; i--) {
-                    if (most[code * p.blocks + order[i]] != UNSEEN) {
-                        valueState(p, ages, code, order[i]);
-                    }
+                    valueState(p, ages, code, order[i]);
                 }
             }
         }
@@ -649,10 +624,8 @@ public final class WorstPaths {
             long high = isEnd ? 0 : NONE;
             long low = isEnd ? 0 : NONE;
             for (int i = p.firstLeaving[b]; i < p.firstLeaving[b + 1]; i++) {
-                int e = p.leaving[i];
-                int next = codeBehind(p, e, code);
-                int state = next * p.blocks + p.to[e];
-                if (next != NONE && most[state] != NONE) {
+                int state = stateBehind(p, p.leaving[i], code);
+                if (state != NONE && most[state] != NONE) {
                     high = Math.max(high, most[state]);
                     low = low == NONE ? fewest[state] : Math.min(low, fewest[state]);
                 }
@@ -682,10 +655,9 @@ public final class WorstPaths {
             long[] values = what == 0 ? most : fewest;
             long rest = values[code * p.blocks + b] - ages.timesBy(what)[b];
             for (int i = p.firstLeaving[b]; i < p.firstLeaving[b + 1]; i++) {
-                int e = p.leaving[i];
-                int next = codeBehind(p, e, code);
-                if (next != NONE && values[next * p.blocks + p.to[e]] == rest) {
-                    return e;
+                int state = stateBehind(p, p.leaving[i], code);
+                if (state != NONE && values[state] == rest) {
+                    return p.leaving[i];
                 }
             }
             return NONE;

@@ -5,6 +5,7 @@ public final class AgeTest {
         wrongInputs(c);
         byLastUse(c);
         whereEdgesMeet(c);
+        sameAges(c);
         roundAndRound(c);
         notComeTo(c);
         c.end();
@@ -47,7 +48,8 @@ public final class AgeTest {
         c.same("at the beginning", ages(x, 0, 1, 2, 3, 4), "-1/-1 -1/-1 -1/-1 -1/-1");
     }
 
-    private static void whereEdgesMeet(Checks c) {
+    /** Blocks 1 and 2 lead from block 0 to block 3, and that to block 4: one set of four lines. */
+    private static WorstPaths fork() {
         WorstPaths x = new WorstPaths(0, 4, 1);
         for (int b = 0; b < 5; b++) {
             x.block(0);
@@ -57,6 +59,11 @@ public final class AgeTest {
         x.edge(1, 3);
         x.edge(2, 3);
         x.edge(3, 4);
+        return x;
+    }
+
+    private static void whereEdgesMeet(Checks c) {
+        WorstPaths x = fork();
         Checks.touchAll(x, 1, 1, 2, 3);
         Checks.touchAll(x, 2, 2, 1);
         c.same("greatest of all, least of any", ages(x, 3, 1, 2, 3), "2/0 1/1 -1/0");
@@ -66,6 +73,16 @@ public final class AgeTest {
         c.same("3 is used, the others get older", ages(x, 4, 1, 2, 3), "3/2 1/1 0/0");
         x.touch(3, 1);
         c.same("1 is used", ages(x, 4, 1, 2, 3), "0/0 2/2 1/1");
+    }
+
+    // A line of the same greatest age does not get older, one of the same least age does.
+    private static void sameAges(Checks c) {
+        WorstPaths x = fork();
+        Checks.touchAll(x, 1, 1, 2);
+        Checks.touchAll(x, 2, 2, 1);
+        c.same("in either order", ages(x, 3, 1, 2), "1/0 1/0");
+        x.touch(3, 1);
+        c.same("one is used", ages(x, 4, 1, 2), "0/0 1/1");
     }
 
     private static void roundAndRound(Checks c) {

@@ -26,6 +26,7 @@ public final class PairTest {
         c.is("still three", 3, () -> x.count(2));
         c.same("the fourth does not count", Checks.wayOf(x, 1), "1 2");
         bothOrders(c);
+        severalPairs(c);
         againAndAgain(c);
         c.end();
     }
@@ -45,6 +46,20 @@ public final class PairTest {
             x.pair(turn == 0 ? 0 : 2, turn == 0 ? 2 : 0);
             c.is("one loop", 14, () -> x.worst());
             c.same("the longer one", Checks.wayOf(x, 0), "2 3 4");
+        }
+    }
+
+    // An edge of several pairs is taken with none of the others.
+    private static void severalPairs(Checks c) {
+        for (int turn = 0; turn < 2; turn++) {
+            WorstPaths x = Checks.blocks(1, 1, 1);
+            x.edge(0, 1);
+            x.edge(0, 1);
+            x.edge(1, 2);
+            x.pair(turn == 0 ? 2 : 0, turn == 0 ? 0 : 2);
+            c.same("the other one", Checks.wayOf(x, 0), "1 2");
+            x.pair(turn == 0 ? 2 : 1, turn == 0 ? 1 : 2);
+            c.unsupported("none of both", () -> x.worst());
         }
     }
 

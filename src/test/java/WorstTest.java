@@ -55,6 +55,11 @@ public final class WorstTest {
         x.edge(2, 3);
         x.edge(3, 2);
         c.is("round where one does not come", 19, () -> x.worst());
+        WorstPaths w = Checks.blocks(1, 2, 4);
+        w.edge(0, 1);
+        w.edge(2, 1);
+        w.edge(2, 2);
+        c.is("an edge from there leads back", 3, () -> w.worst());
         x.edge(1, 2);
         c.unsupported("round where one comes", () -> x.worst());
         x.bound(4, 0);
