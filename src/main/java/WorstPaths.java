@@ -476,16 +476,17 @@ public final class WorstPaths {
         private final int[] unit = new int[MOST_EDGES];
         private final int[] flag = new int[MOST_EDGES];
         private final int[] forbidding = new int[MOST_EDGES];
-        // By state: the time from there to the end, NONE where no way ends.
-        private long[] most = new long[0];
-        private long[] fewest = new long[0];
+        // By state: the time from there to the end, NONE where no way ends. Made with the object
+        // for all the states that an answer may need: no call makes rows of its own.
+        private final long[] most = new long[MOST_STATES];
+        private final long[] fewest = new long[MOST_STATES];
 
         long mostOfAll() {
-            return most.length > 0 ? most[0] : NONE;
+            return most[0];
         }
 
         long fewestOfAll() {
-            return fewest.length > 0 ? fewest[0] : NONE;
+            return fewest[0];
         }
 
         void solve(Program p, Ages ages) {
@@ -494,7 +495,6 @@ public final class WorstPaths {
                 return;
             }
             layOutCode(p);
-            makeRoom(codes * p.blocks);
             valueStates(p, ages);
             answered = most[0] != NONE;
         }
@@ -581,15 +581,6 @@ public final class WorstPaths {
                     unit[e] = codes;
                     codes *= p.bounds[e] + 1;
                 }
-            }
-        }
-
-        // Rows grow at least to the double: so all that are ever made stay below twice the last.
-        private void makeRoom(int states) {
-            if (states > most.length) {
-                int length = Math.max(states, Math.min(2 * most.length, MOST_STATES));
-                most = new long[length];
-                fewest = new long[length];
             }
         }
 
