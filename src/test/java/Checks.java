@@ -1,9 +1,15 @@
 import java.util.concurrent.Callable;
+import java.util.function.Consumer;
 
-/** What the tests share: each compares answers, prints those that are not due, and ends with 1 then. */
+/**
+ * What the tests share: each compares answers, prints those that are not due, and ends with 1 then.
+ * A test that bears a sentence of the document must check something, and fails alone.
+ */
 final class Checks {
+    private int sentences = 0;
     private int made = 0;
     private int wrong = 0;
+    private String sentence = "";
 
     /** A call's answer, or "throws." and the exact name of what it throws. */
     static String outcome(Callable<? extends Number> call) {
@@ -14,11 +20,28 @@ final class Checks {
         }
     }
 
+    /** The test of a sentence, or of a part of one, in the document's words. */
+    void test(String words, Consumer<Checks> body) {
+        sentences++;
+        sentence = "[" + words + "] ";
+        int before = made;
+        try {
+            body.accept(this);
+            if (made == before) {
+                same("checks", 0, "some");
+            }
+        } catch (RuntimeException thrown) {
+            // Of what has been called without a check: the tests behind this one go on.
+            same("a call that is right", thrown, "an answer");
+        }
+        sentence = "";
+    }
+
     void same(String what, Object got, Object want) {
         made++;
         if (!String.valueOf(want).equals(String.valueOf(got))) {
             wrong++;
-            System.out.println(what + " answered " + got + ", due is " + want);
+            System.out.println(sentence + what + " answered " + got + ", due is " + want);
         }
     }
 
@@ -43,9 +66,28 @@ final class Checks {
         fails(what, UnsupportedOperationException.class, call);
     }
 
+    /** What all three questions for ways say when there is no answer. */
+    void noAnswer(String what, WorstPaths x) {
+        unsupported(what + ": worst()", x::worst);
+        unsupported(what + ": best()", x::best);
+        unsupported(what + ": way(0, 0)", () -> x.way(0, 0));
+        unsupported(what + ": way(1, 0)", () -> x.way(1, 0));
+    }
+
+    /** An answer to all three questions for ways: both times, and both ways as their edges. */
+    void answer(String what, WorstPaths x, long worst, String worstWay, long best, String bestWay) {
+        is(what + ": worst()", worst, x::worst);
+        is(what + ": best()", best, x::best);
+        same(what + ": the greatest way", wayOf(x, 0), worstWay);
+        same(what + ": the least way", wayOf(x, 1), bestWay);
+    }
+
     /** A program of blocks with these times, in a cache of one set with two lines, penalty 10. */
     static WorstPaths blocks(int... times) {
-        WorstPaths x = new WorstPaths(0, 2, 10);
+        return blocksIn(new WorstPaths(0, 2, 10), times);
+    }
+
+    static WorstPaths blocksIn(WorstPaths x, int... times) {
         for (int time : times) {
             x.block(time);
         }
@@ -58,19 +100,54 @@ final class Checks {
         }
     }
 
-    /** The edges of a way, up to its end. */
+    /** Edges from each block to the next one in this row. */
+    static void edgesAlong(WorstPaths x, int... row) {
+        for (int i = 0; i + 1 < row.length; i++) {
+            x.edge(row[i], row[i + 1]);
+        }
+    }
+
+    /** The edges of a way, up to its end; what it throws, when it does. */
     static String wayOf(WorstPaths x, int what) {
         StringBuilder text = new StringBuilder();
-        int edge = x.way(what, 0);
-        for (int k = 1; edge != WorstPaths.NONE; k++) {
-            text.append(text.length() == 0 ? "" : " ").append(edge);
-            edge = x.way(what, k);
+        for (int k = 0; k < 3000; k++) {
+            int place = k;
+            String edge = outcome(() -> x.way(what, place));
+            if (edge.equals("-1")) {
+                return text.toString();
+            }
+            text.append(k == 0 ? "" : " ").append(edge);
+            if (edge.startsWith("throws")) {
+                return text.toString();
+            }
+        }
+        return text + " and no end";
+    }
+
+    /** What the first touches of a block do. */
+    static String touchesOf(WorstPaths x, int block, int touches) {
+        StringBuilder text = new StringBuilder();
+        for (int i = 0; i < touches; i++) {
+            int place = i;
+            text.append(i == 0 ? "" : " ").append(outcome(() -> x.touches(block, place)));
+        }
+        return text.toString();
+    }
+
+    /** Greatest and least age of lines where a block begins, as "greatest/least". */
+    static String agesOf(WorstPaths x, int block, int... lines) {
+        StringBuilder text = new StringBuilder();
+        for (int line : lines) {
+            text.append(text.length() == 0 ? "" : " ");
+            text.append(outcome(() -> x.age(block, line, 0))).append("/");
+            text.append(outcome(() -> x.age(block, line, 1)));
         }
         return text.toString();
     }
 
     void end() {
-        System.out.println("  " + made + " checks, " + wrong + " wrong");
+        String ofSentences = sentences == 0 ? "" : sentences + " sentences, ";
+        System.out.println("  " + ofSentences + made + " checks, " + wrong + " wrong");
         if (made == 0 || wrong != 0) {
             System.exit(1);
         }
