@@ -62,7 +62,8 @@ public final class CountTest {
         x.pair(0, 3);
         c.is("nor do pairs", 3, () -> x.count(4));
         x.edge(2, 3);
-        c.is("all", 4, () -> x.count(4));
+        x.bound(4, 0);
+        c.is("all, the last one by an edge that is never taken", 4, () -> x.count(4));
     }
 
     private static void anotherWhat(Checks c) {

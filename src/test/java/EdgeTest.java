@@ -33,6 +33,12 @@ public final class EdgeTest {
         y.bound(0, 1);
         y.edge(0, 1);
         c.answer("from a block to itself", y, 4, "0 1", 3, "1");
+        WorstPaths w = Checks.blocks(1, 2, 4);
+        w.edge(1, 0);
+        w.bound(0, 1);
+        w.edge(0, 1);
+        w.edge(1, 2);
+        c.answer("from a block back to one before", w, 10, "1 0 1 2", 7, "1 2");
         WorstPaths z = Checks.blocks(1, 2);
         z.edge(0, 1);
         z.edge(0, 1);

@@ -122,6 +122,18 @@ public final class NoAnswerTest {
         c.noAnswer("both edges round are a pair", y);
         y.bound(1, 15);
         c.answer("one of them has a bound", y, 11, "0 3", 11, "0 3");
+        // The same, with nothing asked before the bound or the pair is told.
+        WorstPaths z = Checks.blocks(1, 2, 4);
+        z.edge(0, 1);
+        z.edge(0, 2);
+        z.bound(1, 0);
+        z.edge(2, 2);
+        c.noAnswer("at first by an edge that is never taken", z);
+        WorstPaths w = Checks.blocks(1, 2, 4, 8);
+        Checks.edgesAlong(w, 0, 1, 2, 2);
+        w.edge(0, 3);
+        w.pair(0, 1);
+        c.noAnswer("at first by two edges of a pair", w);
     }
 
     // Three edges go round, an end is beside: one bound at any of them is enough, of 0 or of 15.

@@ -21,6 +21,9 @@ public final class TermsTest {
         x.edge(0, 2);
         x.bound(2, 1);
         c.noAnswer("from block 0 on, back to it, and no end", x);
+        WorstPaths y = Checks.blocks(1, 2, 4);
+        Checks.edgesAlong(y, 0, 2, 1);
+        c.answer("against the order of blocks", y, 7, "0 1", 7, "0 1");
     }
 
     private static void asBoundsAndPairsAllow(Checks c) {

@@ -69,6 +69,11 @@ public final class TimeTest {
         Checks.touchAll(x, 0, 1, 2, 3, 4, 5, 6);
         c.is("the greatest of all", 105994, () -> x.time(0, 0));
         c.is("the same for sure", 105994, () -> x.time(0, 1));
+        WorstPaths z = Checks.blocksIn(new WorstPaths(0, 4, 999), 100000);
+        Checks.touchAll(z, 0, 1, 2, 3, 4, 1, 2);
+        z.edge(0, 0);
+        c.is("four open touches, greatest", 103996, () -> z.time(0, 0));
+        c.is("four open touches, least", 100000, () -> z.time(0, 1));
         WorstPaths y = Checks.blocksIn(new WorstPaths(0, 1, 1000), 0);
         Checks.touchAll(y, 0, 1, 2, 3, 4, 5, 6);
         c.is("a penalty of 0", 0, () -> y.time(0, 0));
