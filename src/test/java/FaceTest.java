@@ -8,21 +8,21 @@ import java.util.TreeSet;
 /** The public face: the document's members with their exceptions, and no other that can be seen. */
 public final class FaceTest {
     private static final String[] DUE = {
-        "NONE int",
-        "WorstPaths(int, int, int)",
-        "block(int) int IllegalArgumentException UnsupportedOperationException",
-        "touch(int, int) int IndexOutOfBoundsException UnsupportedOperationException",
-        "edge(int, int) int IndexOutOfBoundsException UnsupportedOperationException",
-        "bound(int, int) int IndexOutOfBoundsException IllegalArgumentException",
-        "pair(int, int) int IndexOutOfBoundsException IllegalArgumentException"
+        "public static final NONE int",
+        "public WorstPaths(int, int, int)",
+        "public block(int) int IllegalArgumentException UnsupportedOperationException",
+        "public touch(int, int) int IndexOutOfBoundsException UnsupportedOperationException",
+        "public edge(int, int) int IndexOutOfBoundsException UnsupportedOperationException",
+        "public bound(int, int) int IndexOutOfBoundsException IllegalArgumentException",
+        "public pair(int, int) int IndexOutOfBoundsException IllegalArgumentException"
             + " UnsupportedOperationException",
-        "worst() long UnsupportedOperationException",
-        "best() long UnsupportedOperationException",
-        "way(int, int) int UnsupportedOperationException IndexOutOfBoundsException",
-        "touches(int, int) int IndexOutOfBoundsException",
-        "age(int, int, int) int IndexOutOfBoundsException",
-        "time(int, int) int IndexOutOfBoundsException",
-        "count(int) int",
+        "public worst() long UnsupportedOperationException",
+        "public best() long UnsupportedOperationException",
+        "public way(int, int) int UnsupportedOperationException IndexOutOfBoundsException",
+        "public touches(int, int) int IndexOutOfBoundsException",
+        "public age(int, int, int) int IndexOutOfBoundsException",
+        "public time(int, int) int IndexOutOfBoundsException",
+        "public count(int) int",
     };
 
     private static String names(Class<?>[] classes, String between) {
@@ -37,15 +37,17 @@ public final class FaceTest {
         TreeSet<String> all = new TreeSet<>();
         for (Field field : WorstPaths.class.getDeclaredFields()) {
             if (!Modifier.isPrivate(field.getModifiers())) {
-                all.add(field.getName() + " " + field.getType());
+                all.add(Modifier.toString(field.getModifiers()) + " " + field.getName() + " " + field.getType());
             }
         }
         for (Constructor<?> made : WorstPaths.class.getDeclaredConstructors()) {
-            all.add("WorstPaths(" + names(made.getParameterTypes(), ", ") + ")");
+            all.add(Modifier.toString(made.getModifiers()) + " WorstPaths("
+                    + names(made.getParameterTypes(), ", ") + ")");
         }
         for (Method method : WorstPaths.class.getDeclaredMethods()) {
             if (!Modifier.isPrivate(method.getModifiers())) {
-                all.add((method.getName() + "(" + names(method.getParameterTypes(), ", ") + ") "
+                all.add((Modifier.toString(method.getModifiers()) + " " + method.getName()
+                        + "(" + names(method.getParameterTypes(), ", ") + ") "
                         + method.getReturnType() + " " + names(method.getExceptionTypes(), " ")).trim());
             }
         }
@@ -55,18 +57,23 @@ public final class FaceTest {
     public static void main(String[] args) {
         Checks c = new Checks();
         c.same("the face", visible(), new TreeSet<>(Arrays.asList(DUE)));
-        c.same("final", Modifier.isFinal(WorstPaths.class.getModifiers()), true);
+        c.same("the class", Modifier.toString(WorstPaths.class.getModifiers()), "public final");
         TreeSet<String> faceNames = new TreeSet<>();
         for (Method method : WorstPaths.class.getMethods()) {
             faceNames.add(method.getName());
         }
-        for (Method method : WorstPaths.class.getDeclaredMethods()) {
+        noPublicNames(c, WorstPaths.class, faceNames);
+        for (Class<?> inside : WorstPaths.class.getDeclaredClasses()) {
+            c.same(inside + " is static", Modifier.isStatic(inside.getModifiers()), true);
+            noPublicNames(c, inside, faceNames);
+        }
+        c.end();
+    }
+
+    private static void noPublicNames(Checks c, Class<?> of, TreeSet<String> faceNames) {
+        for (Method method : of.getDeclaredMethods()) {
             boolean twice = Modifier.isPrivate(method.getModifiers()) && faceNames.contains(method.getName());
             c.same("private " + method.getName() + " has a public name", twice, false);
         }
-        for (Class<?> inside : WorstPaths.class.getDeclaredClasses()) {
-            c.same(inside + " is static", Modifier.isStatic(inside.getModifiers()), true);
-        }
-        c.end();
     }
 }
